@@ -518,6 +518,10 @@ public final class PromiseTests {
         due("17 the nearest", laterOf(new int[] {0, 0, 1}, new int[] {1, 0, 0, 1}), 1);
         due("17 where both are, none is 0", laterOf(new int[] {1}, new int[] {-1}), -1);
         due("17 farther apart for less", laterOf(new int[] {1, 1}, new int[] {-1, -1}), -2);
+        int[] up = {1, 1, 1, 1, 1, 1, 1, 1};
+        int[] down = {-1, -1, -1, -1, -1, -1, -1, -1};
+        due("17 no farther than 7", laterOf(up, down), -7);
+        due("17 nothing beyond a row", laterOf(new int[] {0, 0, 5}, new int[] {0, 0, 0, 0, -5}), 0);
         due("17 great ones, of two the lesser", laterOf(new int[] {1000, -1000}, new int[] {-1000, 1000}), -1);
     }
 
